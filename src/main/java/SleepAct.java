@@ -131,16 +131,12 @@ public final class SleepAct {
         if (refusal(now, set) != 0) {
             return NOT_NOW;
         }
-        return depthBy(now, set);
+        laws.take(street, now.draught);
+        return laws.depthAfter(now.where, now.depth, set, 0);
     }
 
     private boolean isSet(long set) {
         return set >= 0 && set < 1L << street.goers;
-    }
-
-    private int depthBy(Stand stand, int set) {
-        laws.take(street, stand.draught);
-        return laws.depthAfter(stand.where, stand.depth, set, 0);
     }
 
     // ---- deeds
@@ -159,7 +155,8 @@ public final class SleepAct {
     private int stepHour(Stand stand, int set) {
         int why = refusal(stand, set);
         if (why == 0) {
-            stand.depth = depthBy(stand, set);
+            laws.take(street, stand.draught);
+            stand.depth = laws.depthAfter(stand.where, stand.depth, set, 0);
             stand.where += shiftOf(set);
             stand.hours++;
         }
@@ -377,7 +374,9 @@ public final class SleepAct {
     }
 
     public int can() {
-        return layWalks().everPast();
+        Walks all = layWalks();
+        all.lookAtAll();
+        return all.everPast();
     }
 
     public int most(int what) {
@@ -387,23 +386,28 @@ public final class SleepAct {
         if (now.depth == 0) {
             return NONE;
         }
-        int set = layWalks().greatestPast();
+        Walks all = layWalks();
+        all.lookAtAll();
+        int set = all.greatestPast();
         return what == 0 ? Integer.bitCount(set) : set;
     }
 
     public int deepest() {
-        return layWalks().greatestDepth();
+        Walks all = layWalks();
+        all.lookAtAll();
+        return all.greatestDepth();
     }
 
     public int atOnce() {
         if (now.depth == 0) {
             return NOT_NOW;
         }
+        laws.take(street, now.draught);
         int past = street.pastAt(now.where);
         int best = NONE;
         for (int set = 0; set < 1 << street.goers; set++) {
             boolean more = best == NONE || Integer.bitCount(set) > Integer.bitCount(best);
-            if (more && (set & past) == 0 && depthBy(now, set) > 0) {
+            if (more && (set & past) == 0 && laws.depthAfter(now.where, now.depth, set, 0) > 0) {
                 best = set;
             }
         }
@@ -411,7 +415,9 @@ public final class SleepAct {
     }
 
     public int stands() {
-        return layWalks().countStates();
+        Walks all = layWalks();
+        all.lookAtAll();
+        return all.found;
     }
 
     // ---- what it says
@@ -1092,13 +1098,17 @@ public final class SleepAct {
         }
 
         private static int join(int op, int a, int b) {
+            long joined;
             switch (op) {
                 case ADD:
-                    return Math.max(-MOST, Math.min(MOST, a + b));
+                    joined = a + b;
+                    break;
                 case TAKE:
-                    return Math.max(-MOST, Math.min(MOST, a - b));
+                    joined = a - b;
+                    break;
                 case TIMES:
-                    return (int) Math.max(-MOST, Math.min(MOST, (long) a * b));
+                    joined = (long) a * b;
+                    break;
                 case SAME:
                     return a == b ? 1 : 0;
                 case LESS:
@@ -1110,6 +1120,7 @@ public final class SleepAct {
                 default:
                     return a | b;
             }
+            return joined > MOST ? MOST : joined < -MOST ? -MOST : (int) joined;
         }
     }
 
@@ -1119,7 +1130,7 @@ public final class SleepAct {
         static final int WORD = 1;
         static final int NUMBER = 2;
         static final int SIGN = 3;
-        static final String SIGNS = ";:+-*()[]=<>";
+        static final int NO_KIND = 4;
         static final int NO_TOKEN = 1;
         static final int OUT_OF_PLACE = 2;
         static final int OUT_OF_BOUNDS = 3;
@@ -1134,7 +1145,6 @@ public final class SleepAct {
         private int kind;
         private int start;
         private int end;
-        private int number;
         private int nest;
         private boolean inNoise;
         private boolean peopleTold;
@@ -1184,42 +1194,50 @@ public final class SleepAct {
             while (start < length && (byteAt(start) == 10 || byteAt(start) == 32)) {
                 start++;
             }
-            end = start;
-            int c = byteAt(start);
-            if (fault != 0 || start >= length) {
-                kind = END;
-            } else if (isLetter(c)) {
-                kind = WORD;
-                while (end < length && isLetter(byteAt(end))) {
+            kind = start < length && fault == 0 ? kindOf(byteAt(start)) : END;
+            end = kind == SIGN ? start + 1 : start;
+            if (kind == WORD || kind == NUMBER) {
+                while (end < length && kindOf(byteAt(end)) == kind) {
                     end++;
                 }
-            } else if (isDigit(c)) {
-                readDigits();
-            } else if (c > 0 && SIGNS.indexOf((char) c) >= 0) {
-                kind = SIGN;
-                end++;
-            } else {
+            }
+            if (kind == NO_KIND || kind == NUMBER && end - start > 3) {
                 refuse(NO_TOKEN);
             }
         }
 
-        private void readDigits() {
-            kind = NUMBER;
-            number = 0;
-            for (; end < length && isDigit(byteAt(end)); end++) {
-                number = Math.min(9999, number * 10 + byteAt(end) - '0');
+        private static int kindOf(int c) {
+            if (c >= 'a' && c <= 'z') {
+                return WORD;
             }
-            if (end - start > 3) {
-                refuse(NO_TOKEN);
+            if (c >= '0' && c <= '9') {
+                return NUMBER;
+            }
+            switch (c) {
+                case ';':
+                case ':':
+                case '+':
+                case '-':
+                case '*':
+                case '(':
+                case ')':
+                case '[':
+                case ']':
+                case '=':
+                case '<':
+                case '>':
+                    return SIGN;
+                default:
+                    return NO_KIND;
             }
         }
 
-        private static boolean isLetter(int c) {
-            return c >= 'a' && c <= 'z';
-        }
-
-        private static boolean isDigit(int c) {
-            return c >= '0' && c <= '9';
+        private int numberHere() {
+            int number = 0;
+            for (int i = start; i < end && i < start + 3; i++) {
+                number = number * 10 + byteAt(i) - '0';
+            }
+            return number;
         }
 
         private boolean isWord(String word) {
@@ -1259,17 +1277,21 @@ public final class SleepAct {
                 refuse(OUT_OF_PLACE);
                 return 0;
             }
+            int number = numberHere();
             if (number < least || number > most) {
                 refuse(OUT_OF_BOUNDS);
                 return 0;
             }
-            int n = number;
             advance();
-            return n;
+            return number;
         }
 
         private int passWordNumber(String word, int least, int most) {
-            passWord(word);
+            if (isWord(word)) {
+                advance();
+            } else {
+                refuse(OUT_OF_PLACE);
+            }
             return passNumber(least, most);
         }
 
@@ -1341,7 +1363,7 @@ public final class SleepAct {
         private void readHint(boolean bound) {
             advance();
             int p = passNumber(0, told.people - 1);
-            if (kind == NUMBER && number == p) {
+            if (kind == NUMBER && numberHere() == p) {
                 refuse(OUT_OF_BOUNDS);
             }
             int q = passNumber(0, told.people - 1);
@@ -1401,7 +1423,7 @@ public final class SleepAct {
 
         private void readAtom() {
             if (kind == NUMBER) {
-                emit(number);
+                emit(numberHere());
                 advance();
             } else if (isSign('(')) {
                 if (enter()) {
@@ -1642,7 +1664,7 @@ public final class SleepAct {
             return true;
         }
 
-        private void lookAtAll() {
+        void lookAtAll() {
             for (int i = 0; i < STATES && looked < found; i++) {
                 lookOn();
             }
@@ -1689,8 +1711,8 @@ public final class SleepAct {
             return by > 0 ? (by - 1) % 16 : 0;
         }
 
+        /** This and what follows speaks only of what was found so far. */
         int everPast() {
-            lookAtAll();
             int ever = 0;
             for (int i = 0; i < found; i++) {
                 if (order[i] % DEPTHS > 0) {
@@ -1702,7 +1724,6 @@ public final class SleepAct {
 
         /** The set of the most goers that can be past at one time, of like ones the least. */
         int greatestPast() {
-            lookAtAll();
             int best = 0;
             for (int i = 0; i < found; i++) {
                 int set = order[i] % DEPTHS > 0 ? street.pastAt(order[i] / DEPTHS) : 0;
@@ -1715,17 +1736,11 @@ public final class SleepAct {
         }
 
         int greatestDepth() {
-            lookAtAll();
             int deepest = 0;
             for (int i = 0; i < found; i++) {
                 deepest = Math.max(deepest, order[i] % DEPTHS);
             }
             return deepest;
-        }
-
-        int countStates() {
-            lookAtAll();
-            return found;
         }
 
         long countRows(int set, int hours) {
