@@ -1821,9 +1821,12 @@ public final class SleepAct {
                 addWay();
                 return;
             }
-            int p = Integer.numberOfTrailingZeros(free);
-            if (p >= people || level > MOST_PEOPLE) {
+            if (level > MOST_PEOPLE) {
                 return;
+            }
+            int p = 0;
+            while (p < people - 1 && (free >> p & 1) == 0) {
+                p++;
             }
             for (int q = p + 1; q < people; q++) {
                 if ((free >> q & 1) == 1 && mayBind(p, q)) {

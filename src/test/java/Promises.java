@@ -202,6 +202,14 @@ public final class Promises {
     faulty(h + "cart 10 noise 9;cart 0 noise 0;", 0, -1);
     faulty(h + "cart 10 1;", 2, 33);
     faulty(h + "draught;", 2, 32);
+    faulty(h + "draught 0;draught 9;goer loud 0 soft 0 at 0;people 0;", 0, -1);
+    faulty(h + "zaz", 2, 25);
+    faulty(h + "az9", 2, 25);
+    faulty(h + "`", 1, 25);
+    faulty(h + "{", 1, 25);
+    faulty(h + "people /", 1, 32);
+    faulty(h + "people 123z", 3, 32);
+    faulty(h + "people 1234z", 1, 32);
     faulty(h + "house 1;", 2, 25);
     faulty(h + "depth 1;", 2, 25);
     faulty(h + "noise loud;", 2, 31);
@@ -309,6 +317,10 @@ public final class Promises {
     noise("if not not loud>soft then loud*10+soft else 5 end+1", 53);
     noise("2*if 1=1 then 2 else 3 end+1", 5);
     noise("if if 1=1 then 0 else 1 end=0 then 7 else 8 end", 7);
+    String deep = "2";
+    for (int i = 0; i < 6; i++) deep = "if 1=2 or 1=1 and 3=1+1*" + deep + " then 2 else 0 end";
+    noise("1+1*" + deep, 3);
+    noise("draught+(loud-(soft-(goer-(loud-(soft-(depth-far))))))", 7 + 5 - (2 - (1 - (5 - (2 - 7)))));
   }
 
   private static void p06p07() {
@@ -466,6 +478,15 @@ public final class Promises {
     tray(x, 1);
     due(13, "perform of nothing", x.perform(1), 0);
     due(13, "it did nothing", x.count(7), 0);
+    tray(x, 1, 0, 4);
+    due(13, "perform of one", x.perform(1), 1);
+    due(13, "one call", x.count(7), 1);
+    due(13, "depth", x.count(3), 5);
+    x = told("street 2 house 1 depth 4;goer loud 0;goer loud 0;goer loud 0;goer loud 0;");
+    tray(x, 1, 15, 15, 15);
+    due(13, "all step", x.perform(1), 2);
+    due(13, "who is past", x.count(4), 15);
+    due(12, "all are past", x.judge(1, 1), 2);
   }
 
   /** A street where goer 0 stepping makes noise 3 at the house, 2 behind it. */
@@ -599,6 +620,22 @@ public final class Promises {
     due(20, "deepest()", x.deepest(), 7);
     due(19, "most(2)", x.most(2), -2);
     due(19, "most(-1)", x.most(-1), -2);
+    x = told("street 2 house 0 depth 5;goer loud 0;goer loud 0 at 1;goer loud 0 at 1;noise:0;sleeps:if past>1 then 0 else depth end;");
+    due(19, "the least set comes later", x.most(1), 1);
+    x = told("street 1 house 0 depth 5;goer loud 9;goer loud 9;noise:draught*3;");
+    due(18, "can() with one draught", x.can(), 3);
+    due(20, "deepest() with one draught", x.deepest(), 9);
+    x.draught(3);
+    due(18, "can() with another one", x.can(), 0);
+    due(19, "most(0) with another one", x.most(0), 0);
+    due(22, "stands() with another one", x.stands(), 5 + 3);
+    x.draught(2);
+    // noise 6 each: two hours till 7, a step to 1, six hours, a step
+    due(15, "soonest(3) with another one", x.soonest(3), 10);
+    due(17, "rows(1,3) with another one", x.rows(1, 3), 1);
+    due(3, "another street, all where it was", read(x, "street 1 house 0 depth 5;goer loud 9;goer loud 9;noise:0;draught 2;"), 5);
+    due(15, "soonest(3) there", x.soonest(3), 1);
+    due(18, "can() there", x.can(), 3);
     x = told("street 1 house 0 depth 5;goer loud 9 at 1;goer loud 9;sleeps:depth-noise-1;");
     due(18, "can(), one is past now", x.can(), 1);
     due(19, "most(1)", x.most(1), 1);
@@ -737,6 +774,20 @@ public final class Promises {
     due(29, "1, 1", x.draughts(0), 256);
     tray(x, 0, 2, 2);
     due(29, "2, 2", x.draughts(0), 512);
+    x = told("street 1 house 0 depth 1;sleeps:if depth=1 then 0 else 5 end;");
+    tray(x, 0, 0, 0);
+    due(29, "it stays awake whatever the law", x.draughts(0), 1023);
+    due(30, "all ten alike", x.attempt(0), 0);
+    tray(x, 0, 0, 5);
+    due(29, "it stays awake whatever the law", x.draughts(0), 0);
+    x = told("street 1 house 0 depth 1;goer loud 1;sleeps:if steps=2 then draught else 1 end;");
+    tray(x, 0, 1);
+    due(30, "no other sets", x.attempt(0), 0);
+    x = told("street 1 house 0 depth 1;goer loud 1;goer loud 1;goer loud 1;noise:goer;"
+        + "sleeps:if steps=0 then 1 else if noise=0 then if draught=0 then 1 else if draught=9 then 1 else 2 end end"
+        + " else if noise=1 then if draught=0 then 1 else if draught=9 then 2 else if draught=1 then 3 else 4 end end end else 5 end end end;");
+    tray(x, 0, 1);
+    due(30, "8 alike, 7 alike", x.attempt(0), 2);
     x = awake();
     tray(x, 0, 0, 0);
     due(29, "when it is awake", x.draughts(0), 1023);
@@ -785,6 +836,16 @@ public final class Promises {
     due(31, "the last step wakes it", x.daring(1), -1);
     due(31, "the other one's last step wakes it", x.daring(2), 1);
     due(32, "its own are past", x.dares(2), -1);
+    x = told("street 1 house 0 depth 5;goer loud 0;goer loud 0;sleeps:depth-draught;");
+    due(31, "with one draught", x.daring(1), 0);
+    x.draught(3);
+    due(31, "with another one", x.daring(1), 1);
+    x.draught(5);
+    due(31, "with a third one", x.daring(1), -1);
+    due(31, "with a third one, the other side", x.daring(2), -1);
+    read(x, "street 1 house 0 depth 5;goer loud 0;goer loud 0;sleeps:depth-3;draught 5;");
+    due(31, "in another street", x.daring(2), 1);
+    due(31, "in another street", x.daring(1), 1);
     x = awake();
     due(31, "when it is awake", x.daring(0), -5);
     due(32, "when it is awake", x.dares(0), -5);
@@ -873,6 +934,7 @@ public final class Promises {
     due(36, "64 bits", x.write(3, 0, Long.MIN_VALUE), Long.MIN_VALUE);
     due(35, "all 0 in place of another one", x.numbers(3, 3, 2), 0);
     due(13, "two hours", x.perform(3), 2);
+    due(13, "nobody stepped", x.count(3) * 10 + x.goer(0, 0), 50);
     x.undo(1);
     // goer 0: noise 2, then 1: at 3 it must sleep one hour ahead
     due(37, "lists(3,3)", x.lists(3, 3), 2);
@@ -880,6 +942,12 @@ public final class Promises {
     x.numbers(3, 0, 40);
     due(37, "lists(3,3) with places", x.lists(3, 3), 3);
     due(12, "all is done", x.judge(3, 3), 3);
+    tray(x, 3, 9, 9, 9, 300, 5);
+    due(37, "lists(3,3) with others behind", x.lists(3, 3), 3);
+    due(12, "what is behind stays", x.judge(3, 0), 3);
+    tray(x, 3, 9, 9);
+    due(37, "lists(3,2): it steps at once", x.lists(3, 2), 1);
+    due(12, "the first is 2", x.judge(3, 0) * 10 + x.judge(3, 3), 12);
     x.numbers(3, 0, 0);
     due(37, "lists without places", x.lists(3, 3), 0);
     due(37, "lists(4,3)", x.lists(4, 3), -2);
@@ -927,6 +995,21 @@ public final class Promises {
     due(39, "count(0)", x.count(0), 5);
     due(39, "count(9)", x.count(9), 1);
     due(39, "its laws", x.by(0), 2);
+    // laws of one street and draught are not told for another one
+    x = told("street 1 house 0 depth 5;goer loud 1;noise:draught;sleeps:draught+noise-4;draught 9;");
+    due(6, "by(1), noise 9", x.by(1), 9);
+    due(6, "by(0)", x.by(0), 5);
+    x.image(0);
+    x.draught(3);
+    due(6, "by(1), noise 3", x.by(1), 2);
+    due(3, "another street", read(x, "street 1 house 0 depth 5;goer loud 1;noise:1;sleeps:noise+6;draught 9;"), 5);
+    due(6, "by(1)", x.by(1), 7);
+    due(6, "by(0)", x.by(0), 6);
+    x.draught(0);
+    due(6, "by(1)", x.by(1), 7);
+    x.restore(0);
+    due(39, "its draught and laws", x.by(0) * 10 + x.by(1), 59);
+    due(39, "its noise", x.goer(0, 3), 9);
   }
 
   private static void p40() {
