@@ -20,7 +20,7 @@ public final class SleepAct {
     private static final int TRAYS = 4;
     private static final int IMAGES = 2;
     private static final int TRAY_PLACES = 40;
-    private static final int NOT_A_SET = 1;
+    private static final int NONE_SUCH = 1;
     private static final int IS_PAST = 2;
     private static final int IS_AWAKE = 3;
 
@@ -59,7 +59,7 @@ public final class SleepAct {
         for (int i = 0; i < TRAYS; i++) {
             trays[i] = new Tray();
         }
-        now.begin(street);
+        now.become(street.start);
     }
 
     // ---- the street
@@ -86,7 +86,7 @@ public final class SleepAct {
         }
         serial++;
         street = told;
-        now.begin(told);
+        now.become(told.start);
         undoable = 0;
         return told.lines;
     }
@@ -144,7 +144,7 @@ public final class SleepAct {
     /** Why an hour can't be, 0 if it can. */
     private int refusal(Stand stand, int set) {
         if (!isSet(set)) {
-            return NOT_A_SET;
+            return NONE_SUCH;
         }
         if ((set & street.pastAt(stand.where)) != 0) {
             return IS_PAST;
@@ -175,7 +175,7 @@ public final class SleepAct {
 
     private int tellHint(Stand stand, int p, int q, boolean bound) {
         if (!isPerson(p) || !isPerson(q) || p == q) {
-            return NOT_A_SET;
+            return NONE_SUCH;
         }
         stand.addHint(p, q, bound);
         return 0;
@@ -187,7 +187,7 @@ public final class SleepAct {
 
     private int changeDraught(Stand stand, int n) {
         if (n < 0 || n > 9) {
-            return NOT_A_SET;
+            return NONE_SUCH;
         }
         stand.draught = n;
         return 0;
@@ -205,7 +205,7 @@ public final class SleepAct {
             int told = (int) v;
             return tellHint(stand, told / 10 % 10, told % 10, told < 300);
         }
-        return NOT_A_SET;
+        return NONE_SUCH;
     }
 
     /** Keeps how all stood ahead of a call, the eldest being forgotten. */
@@ -234,7 +234,7 @@ public final class SleepAct {
 
     public int hours(int n) {
         if (n < 1 || n > 99) {
-            return WHY_NOT - NOT_A_SET;
+            return WHY_NOT - NONE_SUCH;
         }
         if (now.depth == 0) {
             return WHY_NOT - IS_AWAKE;
@@ -249,7 +249,7 @@ public final class SleepAct {
     public int hint(int p, int q, int is) {
         spare.become(now);
         if (is < 0 || is > 1 || tellHint(now, p, q, is == 1) != 0) {
-            return WHY_NOT - NOT_A_SET;
+            return WHY_NOT - NONE_SUCH;
         }
         keepForUndo(spare);
         return learnSays().ways;
@@ -258,7 +258,7 @@ public final class SleepAct {
     public int draught(int n) {
         spare.become(now);
         if (changeDraught(now, n) != 0) {
-            return WHY_NOT - NOT_A_SET;
+            return WHY_NOT - NONE_SUCH;
         }
         keepForUndo(spare);
         return spare.draught;
@@ -825,23 +825,21 @@ public final class SleepAct {
         int lines;
         int cells = 1;
         int house;
-        int depth = 9;
         int goers;
         final int[] loud = new int[MOST_GOERS];
         final int[] soft = new int[MOST_GOERS];
-        int where;
         int people;
-        long bound;
-        long unbound;
         int cartOdds;
         int cartNoise;
-        int draught;
+        /** How all is at first. */
+        final Stand start = new Stand();
         /** Laws as code (see Laws); null: none was told. */
         int[] noiseLaw;
         int[] sleepsLaw;
 
         Street(int serial) {
             this.serial = serial;
+            start.depth = 9;
         }
 
         /** Who is past, as bits, when the goers are so. */
@@ -868,15 +866,6 @@ public final class SleepAct {
         int draught;
         int hours;
 
-        void begin(Street street) {
-            where = street.where;
-            depth = street.depth;
-            bound = street.bound;
-            unbound = street.unbound;
-            draught = street.draught;
-            hours = 0;
-        }
-
         void become(Stand other) {
             where = other.where;
             depth = other.depth;
@@ -887,13 +876,9 @@ public final class SleepAct {
         }
 
         void addHint(int p, int q, boolean isBound) {
-            long pair = pairBits(p, q);
+            long pair = 1L << 8 * p + q | 1L << 8 * q + p;
             bound = isBound ? bound | pair : bound & ~pair;
             unbound = isBound ? unbound & ~pair : unbound | pair;
-        }
-
-        static long pairBits(int p, int q) {
-            return 1L << 8 * p + q | 1L << 8 * q + p;
         }
     }
 
@@ -1298,7 +1283,7 @@ public final class SleepAct {
         private void readHead() {
             told.cells = passWordNumber("street", 1, 6);
             told.house = passWordNumber("house", 0, told.cells - 1);
-            told.depth = passWordNumber("depth", 1, 9);
+            told.start.depth = passWordNumber("depth", 1, 9);
             endLine();
         }
 
@@ -1318,7 +1303,7 @@ public final class SleepAct {
                 told.cartOdds = passWordNumber("cart", 0, 10);
                 told.cartNoise = passWordNumber("noise", 0, 9);
             } else if (isWord("draught")) {
-                told.draught = passWordNumber("draught", 0, 9);
+                told.start.draught = passWordNumber("draught", 0, 9);
             } else if (isWord("noise")) {
                 told.noiseLaw = readLaw(true);
             } else if (isWord("sleeps")) {
@@ -1347,7 +1332,7 @@ public final class SleepAct {
             }
             told.loud[told.goers] = loud;
             told.soft[told.goers] = soft;
-            told.where += at * WEIGHT[told.goers];
+            told.start.where += at * WEIGHT[told.goers];
             told.goers++;
         }
 
@@ -1368,9 +1353,7 @@ public final class SleepAct {
             }
             int q = passNumber(0, told.people - 1);
             if (fault == 0) {
-                long pair = Stand.pairBits(p, q);
-                told.bound = bound ? told.bound | pair : told.bound & ~pair;
-                told.unbound = bound ? told.unbound & ~pair : told.unbound | pair;
+                told.start.addHint(p, q, bound);
             }
         }
 
@@ -1465,30 +1448,25 @@ public final class SleepAct {
             if (isWord("depth")) {
                 return Laws.DEPTH;
             }
-            return inNoise ? noiseWord() : sleepsWord();
-        }
-
-        private int noiseWord() {
-            if (isWord("goer")) {
+            if (inNoise && isWord("goer")) {
                 return Laws.GOER;
             }
-            if (isWord("loud")) {
+            if (inNoise && isWord("loud")) {
                 return Laws.LOUD;
             }
-            if (isWord("soft")) {
+            if (inNoise && isWord("soft")) {
                 return Laws.SOFT;
             }
-            return isWord("far") ? Laws.FAR : 0;
-        }
-
-        private int sleepsWord() {
-            if (isWord("noise")) {
+            if (inNoise && isWord("far")) {
+                return Laws.FAR;
+            }
+            if (!inNoise && isWord("noise")) {
                 return Laws.NOISE;
             }
-            if (isWord("steps")) {
+            if (!inNoise && isWord("steps")) {
                 return Laws.STEPS;
             }
-            return isWord("past") ? Laws.PAST : 0;
+            return !inNoise && isWord("past") ? Laws.PAST : 0;
         }
 
         private void readTruth() {
