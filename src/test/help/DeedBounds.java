@@ -430,6 +430,7 @@ final class DeedBounds {
     Bounds.due("depth", x.count(3), 6);
     Bounds.due("undo(1): the hint", x.undo(1), 8);
     Bounds.due("hints", x.hints(1), 0);
+    Bounds.due("hours", x.count(6), 1);
     Bounds.due("undo(1): the hour", x.undo(1), 7);
     Bounds.due("hours", x.count(6), 0);
     Bounds.due("goer", x.goer(0, 0), 0);
@@ -454,6 +455,27 @@ final class DeedBounds {
     Bounds.due("draught", x.count(5), 2);
     Bounds.due("hints", x.hints(1), 0);
     Bounds.due("hours", x.count(6), 0);
+  }
+
+  @Bounds.Holds(promise = 0, says = "(eldest are forgotten): GOERS, DEPTH, HINTS, DRAUGHT, HOURS.")
+  static void allIsBroughtBack() {
+    SleepAct x = Bounds.told("street 6 house 0 depth 5;goer loud 2;goer loud 0 at 2;people 5;draught 4;not 0 1;bound 2 3;");
+    Bounds.tray(x, 0, 1, 107, 2, 202, 332, 0);
+    for (int round = 0; round < 2; round++) {
+      for (int call = 0; call < 7; call++) {
+        long[] before = Bounds.stand(x);
+        int calls = x.count(7);
+        long got = call == 0 ? x.hour(2) : call == 1 ? x.hours(3) : call == 2 ? x.hint(0, 1, 1) : call == 3 ? x.draught(8)
+            : call == 4 ? x.perform(0) : call == 5 ? x.night(6, 40) : x.hint(4, 3, 0);
+        Bounds.due("call " + call + " did some", got >= 0 ? 1 : 0, 1);
+        Bounds.due("calls", x.count(7), calls + 1);
+        Bounds.due("undo(1)", x.undo(1), calls);
+        Bounds.same("call " + call + " and undo(1)", Bounds.stand(x), before);
+        // something else is done between them
+        if (call == 3) x.hour(3);
+      }
+      x.hint(1, 4, 1);
+    }
   }
 
   @Bounds.Holds(promise = 11, says = "n calls (1 to 10) are UNDONE: how many still can be.")

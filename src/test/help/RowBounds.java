@@ -124,6 +124,16 @@ final class RowBounds {
     x = Bounds.told("street 1 house 0 depth 8;goer loud 0;sleeps:depth-1;");
     Bounds.due("rows(1, 7)", x.rows(1, 7), 7);
     Bounds.due("rows(1, 8)", x.rows(1, 8), 0);
+    // it sleeps at 1, too
+    x = Bounds.told("street 1 house 0 depth 1;goer loud 0;sleeps:depth;");
+    Bounds.due("rows(0, 0) from 1", x.rows(0, 0), 1);
+    Bounds.due("rows(1, 8) from 1", x.rows(1, 8), 8);
+    x = Bounds.told("street 1 house 0 depth 2;goer loud 0;sleeps:if depth=2 then 1 else 2 end;");
+    Bounds.due("rows(1, 8) from 2 to 1 and back", x.rows(1, 8), 8);
+    // all are PAST, and hours go by
+    x = Bounds.told("street 6 house 0 depth 3;" + "goer loud 0 at 6;".repeat(4) + "sleeps:depth-1;");
+    Bounds.due("rows(15, 2), all are PAST", x.rows(15, 2), 1);
+    Bounds.due("rows(15, 3), all are PAST, it wakes", x.rows(15, 3), 0);
     x = Bounds.awake();
     Bounds.due("AWAKE, rows(0, 0)", x.rows(0, 0), 0);
     Bounds.due("AWAKE, rows(2, 0)", x.rows(2, 0), 0);
@@ -157,6 +167,8 @@ final class RowBounds {
     Bounds.due("AWAKE", Bounds.awake().can(), 0);
     x = Bounds.told("street 2 house 0 depth 2;goer loud 0;sleeps:depth-1;");
     Bounds.due("it wakes by the last step", x.can(), 0);
+    x = Bounds.told("street 2 house 0 depth 3;goer loud 0;sleeps:depth-1;");
+    Bounds.due("it sleeps at 1 behind the last step", x.can(), 1);
   }
 
   @Bounds.Holds(promise = 19, says = "The most GOERS that can be PAST at one time by some ROW with it SLEEPING then; of like ones the least set, what 0: how many, 1: the set, as bits.")
@@ -177,6 +189,10 @@ final class RowBounds {
     Bounds.due("nobody", x.most(1), 0);
     x = Bounds.told("street 1 house 0 depth 5;goer loud 0;goer loud 0;goer loud 0 at 1;sleeps:0;");
     Bounds.due("who is PAST now", x.most(1), 4);
+    x = Bounds.told("street 2 house 0 depth 3;goer loud 0;goer loud 0;sleeps:depth-1;");
+    Bounds.due("it sleeps at 1 behind the last steps", x.most(1), 3);
+    x.hour(0);
+    Bounds.due("it wakes by the last steps", x.most(1), 0);
     // 3 has more than 4, though it is less; of 3 and 5 and 6 it is the least
     x = Bounds.told("street 2 house 0 depth 5;goer loud 0;goer loud 0 at 1;goer loud 0 at 1;sleeps:if past>2 then 0 else depth end;");
     Bounds.due("the least is found last", x.most(1), 3);
@@ -247,6 +263,12 @@ final class RowBounds {
     // where each is, and each depth from 1 to 9 behind an hour: by sleeps as by noise
     x = Bounds.told("street 6 house 0 depth 9;" + "goer loud 0;".repeat(4) + "sleeps:if steps=0 then if depth=0 then 9 else depth-1 end else depth end;");
     Bounds.due("all that can be", x.stands(), 7 * 7 * 7 * 7 * 10);
+    Bounds.due("who can, of all that can be", x.can(), 15);
+    Bounds.due("how many, of all that can be", x.most(0), 4);
+    Bounds.due("how deep, of all that can be", x.deepest(), 9);
+    Bounds.due("soonest, of all that can be", x.soonest(15), 6);
+    x.hour(0);
+    Bounds.due("all that can be from 8 on", x.stands(), 7 * 7 * 7 * 7 * 9);
     x = Bounds.told("street 1 house 0 depth 9;goer loud 0 at 1;sleeps:depth;");
     Bounds.due("nobody can STEP", x.stands(), 1);
   }
@@ -266,6 +288,10 @@ final class RowBounds {
     x = Bounds.told("street 1 house 0 depth 3;goer loud 0;goer loud 0 at 1;sleeps:if steps=0 then 0 else depth end;");
     Bounds.due("its own are PAST: the rest wakes it", x.daring(2), -1);
     Bounds.due("one step, and all are PAST", x.daring(1), 0);
+    // the rest makes no noise: from 1 it sleeps at 2, then noise 2 wakes it
+    x = Bounds.told("street 1 house 0 depth 1;goer loud 3;goer loud 0 at 1;");
+    Bounds.due("rest, step", x.daring(2), 1);
+    Bounds.due("step", x.daring(1), -1);
     // who has one that isn't PAST can't rest, though it would do better so
     x = Bounds.told("street 1 house 0 depth 3;goer loud 0;goer loud 0;sleeps:if steps=0 then depth else 0 end;");
     Bounds.due("it must step", x.daring(1), -1);

@@ -144,6 +144,12 @@ final class TextBounds {
     Bounds.good(Bounds.HEAD + "noise:" + "(((((1)))))+".repeat(9) + "((((((1))))));");
     Bounds.good(ahead + "not not not not not 1=1 and not not not not not 1=1 or [[[[[1=1]]]]] then (((((1))))) else (((((2))))) end*((((((1))))));");
     Bounds.good(Bounds.HEAD + "noise:((((((1))))));sleeps:((((((1))))));");
+    // nor do those of a text with a fault
+    SleepAct x = new SleepAct();
+    Bounds.due("seven", Bounds.read(x, Bounds.HEAD + "noise:((((((("), -34);
+    Bounds.due("six of another text", Bounds.read(x, Bounds.HEAD + "noise:((((((1))))));"), 2);
+    Bounds.due("three, none closed", Bounds.read(x, Bounds.HEAD + "noise:((("), -32);
+    Bounds.due("six of another text", Bounds.read(x, Bounds.HEAD + "sleeps:((((((1))))));"), 2);
   }
 
   // ---- the bounds of numbers
@@ -204,6 +210,12 @@ final class TextBounds {
       text.append("goer loud ").append(n + 3).append(";");
     }
     Bounds.faulty(text.toString(), 4, 25 + 4 * 12);
+    // another text tells them anew
+    SleepAct x = new SleepAct();
+    Bounds.due("five", Bounds.read(x, text.toString()), -34);
+    Bounds.due("four of another text", Bounds.read(x, text.substring(0, 25 + 4 * 12)), 5);
+    Bounds.due("four of a third text", Bounds.read(x, text.substring(0, 25 + 4 * 12)), 5);
+    Bounds.due("goers", x.count(1), 4);
   }
 
   @Bounds.Holds(promise = 0, says = "people: 0 to 8 (0);")
@@ -220,6 +232,12 @@ final class TextBounds {
     Bounds.faulty(Bounds.HEAD + "bound 0 1;people 2;", 3, 31);
     Bounds.faulty(Bounds.HEAD + "not 0 1;people 2;", 3, 29);
     Bounds.good(Bounds.HEAD + "people 2;draught 1;goer loud 1;not 0 1;bound 0 1;");
+    // another text tells them anew
+    SleepAct x = new SleepAct();
+    Bounds.due("people with a fault", Bounds.read(x, Bounds.HEAD + "people 2;people 2;"), -32);
+    Bounds.due("people of another text", Bounds.read(x, Bounds.HEAD + "people 2;"), 2);
+    Bounds.due("people of a third text", Bounds.read(x, Bounds.HEAD + "people 3;not 1 2;"), 3);
+    Bounds.due("people of the text ahead don't count", Bounds.read(x, Bounds.HEAD + "not 0 1;"), -33);
   }
 
   @Bounds.Holds(promise = 0, says = "bound, not: two PEOPLE, not one: a HINT that the act binds them, that it doesn't.")

@@ -69,6 +69,7 @@ public final class Promises {
     p35to37();
     p38p39();
     p40();
+    keptBetweenCalls();
     System.out.println(wrong == 0 ? looked + " answers are as due" : wrong + " of " + looked + " answers are not as due");
     if (wrong != 0) System.exit(1);
   }
@@ -1024,5 +1025,52 @@ public final class Promises {
     due(40, "HOURS", x.count(6), 4);
     due(40, "calls that can be UNDONE", x.count(7), 2);
     due(40, "bytes", x.count(8), 20);
+  }
+
+  /** What was found for one street and draught is not told for another one, though all stand where they stood. */
+  private static void keptBetweenCalls() {
+    String law = "noise:draught*3;";
+    String street = "street 1 house 0 depth 5;goer loud 9;goer loud 9;";
+    SleepAct x = told(street + law);
+    int[] soonest = {1, 3, 10, -1};
+    // noise 0; 3 each: two hours of rest, then 7 less 6; 6 each: two hours till 7, a step, six hours, a step; 9 each
+    for (int draught : new int[] {0, 3, 0, 2, 0, 1, 2, 1, 3, 2, 0}) {
+      x.draught(draught);
+      due(15, "soonest(3) by draught " + draught, x.soonest(3), soonest[draught]);
+      due(18, "can() by draught " + draught, x.can(), draught == 3 ? 0 : 3);
+      due(15, "soonest(3) by draught " + draught, x.soonest(3), soonest[draught]);
+    }
+    for (int round = 0; round < 3; round++) {
+      due(3, "a street", read(x, street + "noise:6;"), 4);
+      due(15, "soonest(3), noise 6", x.soonest(3), 10);
+      due(3, "another street", read(x, street + "noise:0;"), 4);
+      due(15, "soonest(3), noise 0", x.soonest(3), 1);
+    }
+    x = told("street 1 house 0 depth 5;goer loud 0;goer loud 0;sleeps:depth-draught;");
+    int[] daring = {0, 0, 0, 1, 1, -1, -1, -1, -1, -1};
+    for (int draught : new int[] {0, 3, 0, 5, 0, 4, 3, 5, 3, 0}) {
+      x.draught(draught);
+      due(31, "daring(1) by draught " + draught, x.daring(1), daring[draught]);
+    }
+    for (int round = 0; round < 3; round++) {
+      for (int lose = 5; lose >= 2; lose--) {
+        due(3, "a street", read(x, "street 1 house 0 depth 5;goer loud 0;goer loud 0;sleeps:depth-" + lose + ";"), 4);
+        due(31, "daring(1) by " + lose, x.daring(1), daring[lose]);
+      }
+    }
+    for (int told = 9; told >= 0; told--) {
+      due(3, "a street", read(x, "street 1 house 0 depth 5;goer loud 0;draught " + told + ";noise:" + told + ";sleeps:if steps=1 then 0 else " + told + " end;"), 5);
+      due(5, "noise by " + told, x.goer(0, 3), told);
+      due(6, "by(0) by " + told, x.by(0), told);
+    }
+    for (int told = 1; told < 9; told++) {
+      due(3, "a street", read(x, "street 1 house 0 depth 5;goer loud 0;noise:" + told + "+draught;sleeps:if steps=1 then noise else 9-" + told + " end;"), 4);
+      for (int draught = 0; draught < 10; draught++) {
+        x.draught(draught);
+        due(5, "noise by " + told + ", " + draught, x.goer(0, 3), told + draught);
+        due(6, "by(1) by " + told + ", " + draught, x.by(1), Math.min(9, told + draught));
+        due(6, "by(0) by " + told + ", " + draught, x.by(0), 9 - told);
+      }
+    }
   }
 }
