@@ -14,7 +14,7 @@ import java.util.List;
 
 /** What the tests of boundary sentences share: each quotes its sentence, and the quote must stand in the document. */
 final class Bounds {
-  /** The sentence that a test would find broken: of a promise, or of the section "Terms" (promise 0). */
+  /** The sentence that a test would find broken: of a promise, of the section "Terms" (0), of "What it is" (-1). */
   @Retention(RetentionPolicy.RUNTIME)
   @Target(ElementType.METHOD)
   @interface Holds {
@@ -41,6 +41,7 @@ final class Bounds {
 
   static void tell(String what) {
     wrong++;
+    if (wrong > 40) return;
     System.out.println(test + (sentence == null ? "" : " (promise " + sentence.promise() + ": " + sentence.says() + ")") + ": " + what);
   }
 
@@ -144,9 +145,9 @@ final class Bounds {
     return text.replaceAll("\\s+", " ");
   }
 
-  /** The text of a promise, or of the terms ahead of all of them (promise 0). */
+  /** The text of a promise, of the terms (0), or of what it is (-1). */
   static String section(String document, int promise) {
-    String from = promise == 0 ? "## Terms " : "## Promise " + promise + ": ";
+    String from = promise < 0 ? "## What it is " : promise == 0 ? "## Terms " : "## Promise " + promise + ": ";
     int start = document.indexOf(from);
     int end = document.indexOf(" ## ", start + 1);
     return start < 0 ? "" : document.substring(start, end < 0 ? document.length() : end);

@@ -459,22 +459,24 @@ final class DeedBounds {
 
   @Bounds.Holds(promise = 0, says = "(eldest are forgotten): GOERS, DEPTH, HINTS, DRAUGHT, HOURS.")
   static void allIsBroughtBack() {
-    SleepAct x = Bounds.told("street 6 house 0 depth 5;goer loud 2;goer loud 0 at 2;people 5;draught 4;not 0 1;bound 2 3;");
-    Bounds.tray(x, 0, 1, 107, 2, 202, 332, 0);
-    for (int round = 0; round < 2; round++) {
-      for (int call = 0; call < 7; call++) {
+    for (int call = 0; call < 7; call++) {
+      SleepAct x = Bounds.told("street 6 house 0 depth 5;goer loud 2;goer loud 0 at 2;people 5;draught 4;not 0 1;bound 2 3;");
+      Bounds.tray(x, 0, 1, 107, 2, 202, 332, 0);
+      for (int calls = 0; calls < 2; calls++) {
         long[] before = Bounds.stand(x);
-        int calls = x.count(7);
         long got = call == 0 ? x.hour(2) : call == 1 ? x.hours(3) : call == 2 ? x.hint(0, 1, 1) : call == 3 ? x.draught(8)
             : call == 4 ? x.perform(0) : call == 5 ? x.night(6, 40) : x.hint(4, 3, 0);
         Bounds.due("call " + call + " did some", got >= 0 ? 1 : 0, 1);
         Bounds.due("calls", x.count(7), calls + 1);
         Bounds.due("undo(1)", x.undo(1), calls);
         Bounds.same("call " + call + " and undo(1)", Bounds.stand(x), before);
-        // something else is done between them
-        if (call == 3) x.hour(3);
+        // something else is done, by which all is another way
+        x.numbers(1, 3, 3);
+        x.write(1, 0, 3);
+        x.write(1, 1, 106);
+        x.write(1, 2, 314);
+        Bounds.due("perform", x.perform(1), 3);
       }
-      x.hint(1, 4, 1);
     }
   }
 

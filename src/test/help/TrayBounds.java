@@ -34,6 +34,33 @@ final class TrayBounds {
     Bounds.due("AWAKE now", x.draughts(0), 0);
   }
 
+  @Bounds.Holds(promise = 0, says = "SLEPT in a TRAY (1 to 10 numbers): DEPTHS behind one HOUR after another from now on in which nobody STEPS:")
+  static void sleptOneTo10Hours() {
+    // one deeper each hour by draught 4, one less deep by 5, two less by 6, else as it is
+    SleepAct x = Bounds.told("street 1 house 0 depth 5;goer loud 9;draught 3;sleeps:if steps>0 then 0 else if draught=4 then depth+1 else "
+        + "if draught=5 then depth-1 else if draught=6 then depth-2 else depth end end end end;");
+    int[][] slept = {{6, 7, 8, 9, 9, 9, 9, 9, 9, 9}, {4, 3, 2, 1, 0, 0, 0, 0, 0, 0}, {3, 1, 0, 0, 0, 0, 0, 0, 0, 0}, {5, 5, 5, 5, 5, 5, 5, 5, 5, 5}};
+    int[] draughts = {16, 32, 64, 1023 - 112};
+    for (int k = 0; k < 4; k++) {
+      for (int n = 1; n <= 10; n++) {
+        long[] v = new long[n];
+        for (int i = 0; i < n; i++) v[i] = slept[k][i];
+        Bounds.tray(x, 0, v);
+        Bounds.due(n + " hours of row " + k, x.draughts(0), draughts[k]);
+        v[n - 1] = v[n - 1] == 9 ? 8 : v[n - 1] + 1;
+        if (n > 1) x.write(0, n - 1, v[n - 1]);
+        if (n > 1) Bounds.due("the last of " + n + " is another one", x.draughts(0), 0);
+      }
+    }
+    Bounds.tray(x, 0, 5);
+    x.hours(1);
+    x.draught(5);
+    x.hours(2);
+    Bounds.due("from now on: 3", x.count(3), 3);
+    Bounds.tray(x, 0, 2, 1, 0);
+    Bounds.due("from now on", x.draughts(0), 32);
+  }
+
   @Bounds.Holds(promise = 29, says = "SLEPT: DRAUGHTS, as bits. -2: the TRAY; -6; -4: not 1 to 10 numbers; -3: one is not 0 to 9.")
   static void draughtsRefused() {
     SleepAct x = new SleepAct();
@@ -570,6 +597,50 @@ final class TrayBounds {
     Bounds.due("undo(3)", x.undo(3), 0);
     Bounds.due("restore(0)", x.restore(0), 0);
     Bounds.due("hours", x.count(6), 3);
+  }
+
+  @Bounds.Holds(promise = 0, says = "-2 there is none such; -3 a number can't be; -4 too many; -5 it can't be now; -6 a TRAY is MISSING; -7 it has no such number; -11 to -13 why not (1 to 3); -30 less the FAULT: a text.")
+  static void eachCode() {
+    SleepAct x = Bounds.told("street 1 house 0 depth 1;goer loud 0 at 1;people 2;sleeps:0;");
+    Bounds.due("-2", x.image(2), -2);
+    Bounds.due("-3", x.undo(1), -3);
+    Bounds.due("-5", x.restore(0), -5);
+    Bounds.due("-6", x.perform(0), -6);
+    x.numbers(0, 0, 11);
+    Bounds.due("-4", x.draughts(0), -4);
+    Bounds.due("-7", x.write(0, 11, 0), -7);
+    Bounds.due("-11", x.hour(2), -11);
+    Bounds.due("-12", x.hour(1), -12);
+    x.hour(0);
+    Bounds.due("-13", x.hour(0), -13);
+    Bounds.due("-31", Bounds.read(x, "A"), -31);
+    Bounds.due("-32", Bounds.read(x, "a"), -32);
+    Bounds.due("-33", Bounds.read(x, "street 9"), -33);
+    Bounds.due("-34", Bounds.read(x, Bounds.HEAD + "noise:((((((("), -34);
+  }
+
+  @Bounds.Holds(promise = -1, says = "An object is used for at most 512 calls after it has been made; what later calls answer is free.")
+  static void till512Calls() {
+    SleepAct x = new SleepAct();
+    for (int i = 0; i < 510; i++) x.hours(99);
+    Bounds.due("call 511", x.count(6), 510 * 99);
+    Bounds.due("call 512", x.undo(10), 0);
+    x = new SleepAct();
+    int calls = 0;
+    for (int told = 0; calls < 506; told = (told + 1) % 10) {
+      // three of feed, one of street, two of by, one of draught
+      Bounds.due("street", Bounds.read(x, "street 1 house 0 depth 9;sleeps:" + told + "+draught;"), 2);
+      Bounds.due("by the law of this street", x.by(0), told);
+      x.draught(1);
+      Bounds.due("by the law of this street", x.by(0), Math.min(9, told + 1));
+      calls += 7;
+    }
+    x = Bounds.told("street 6 house 0 depth 9;" + "goer loud 0;".repeat(4));
+    for (int i = 0; i < 252; i++) {
+      x.image(i % 2);
+      x.restore(i % 2);
+    }
+    Bounds.due("a late call", x.soonest(15), 6);
   }
 
   @Bounds.Holds(promise = 0, says = "(Of several that which the call tells first; all these ahead of NONE.)")

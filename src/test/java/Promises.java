@@ -1058,11 +1058,13 @@ public final class Promises {
         due(31, "daring(1) by " + lose, x.daring(1), daring[lose]);
       }
     }
+    x = new SleepAct();
     for (int told = 9; told >= 0; told--) {
       due(3, "a street", read(x, "street 1 house 0 depth 5;goer loud 0;draught " + told + ";noise:" + told + ";sleeps:if steps=1 then 0 else " + told + " end;"), 5);
       due(5, "noise by " + told, x.goer(0, 3), told);
       due(6, "by(0) by " + told, x.by(0), told);
     }
+    x = new SleepAct();
     for (int told = 1; told < 9; told++) {
       due(3, "a street", read(x, "street 1 house 0 depth 5;goer loud 0;noise:" + told + "+draught;sleeps:if steps=1 then noise else 9-" + told + " end;"), 4);
       for (int draught = 0; draught < 10; draught++) {
