@@ -1272,11 +1272,7 @@ public final class SleepAct {
         }
 
         private int passWordNumber(String word, int least, int most) {
-            if (isWord(word)) {
-                advance();
-            } else {
-                refuse(OUT_OF_PLACE);
-            }
+            passWord(word);
             return passNumber(least, most);
         }
 
