@@ -70,6 +70,7 @@ public final class Promises {
     p38p39();
     p40();
     keptBetweenCalls();
+    keptApart();
     System.out.println(wrong == 0 ? looked + " answers are as due" : wrong + " of " + looked + " answers are not as due");
     if (wrong != 0) System.exit(1);
   }
@@ -1074,5 +1075,43 @@ public final class Promises {
         due(6, "by(0) by " + told + ", " + draught, x.by(0), 9 - told);
       }
     }
+  }
+
+  /** What is kept of one thing may not be told of another one that is like it in all but one. */
+  private static void keptApart() {
+    for (int one = 0; one < 10; one++) {
+      for (int other = 0; other < 10; other++) {
+        SleepAct x = told("street 1 house 0 depth 5;goer loud 0;draught " + one + ";noise:5;sleeps:if steps=1 then 3 else 6 end;");
+        due(5, "noise by draught " + one, x.goer(0, 3), 5);
+        due(6, "by(0) by draught " + one, x.by(0), 6);
+        due(3, "a street", read(x, "street 1 house 0 depth 5;goer loud 0;draught " + other + ";noise:70;sleeps:if steps=1 then 2 else 9 end;"), 5);
+        due(5, "noise by draught " + one + ", then " + other, x.goer(0, 3), 70);
+        due(6, "by(0) by draught " + one + ", then " + other, x.by(0), 9);
+      }
+    }
+    // much noise at one depth, none at the next one
+    SleepAct x = told("street 3 house 0 depth 3;goer loud 0;goer loud 0;noise:if depth=3 then 64 else 0 end;"
+        + "sleeps:if noise=128 then 5 else if noise=0 and steps=2 then 8 else 4 end end;");
+    due(6, "by(3), noise 128", x.by(3), 5);
+    due(8, "hours(1)", x.hours(1), 4);
+    due(6, "by(3), noise 0", x.by(3), 8);
+    // all four step without noise, or nobody does while a cart passes
+    x = told("street 3 house 0 depth 4;goer loud 0;goer loud 0;goer loud 0;goer loud 0;cart 10 noise 1;noise:0;"
+        + "sleeps:if steps=4 then 2 else if noise=1 then 7 else 5 end end;");
+    due(6, "by(15)", x.by(15), 2);
+    tray(x, 0, 0);
+    due(34, "mean of an hour with a cart", x.mean(0, 0), 7);
+    due(6, "by(15) again", x.by(15), 2);
+    due(6, "by(0)", x.by(0), 5);
+    // goers and depth are as they were in the game, but those of the set are on now
+    x = told("street 2 house 0 depth 4;goer loud 0;goer loud 0;noise:goer*9;");
+    due(31, "daring(1)", x.daring(1), 1);
+    due(7, "hour(1)", x.hour(1), 5);
+    due(31, "daring(1) a cell on", x.daring(1), 1);
+    due(32, "dares(1) a cell on", x.dares(1), 0);
+    due(31, "daring(2)", x.daring(2), -1);
+    due(7, "hour(1)", x.hour(1), 6);
+    due(31, "daring(1), goer 0 past", x.daring(1), 1);
+    due(32, "dares(1), goer 0 past", x.dares(1), -1);
   }
 }
