@@ -1103,6 +1103,14 @@ public final class Promises {
     due(34, "mean of an hour with a cart", x.mean(0, 0), 7);
     due(6, "by(15) again", x.by(15), 2);
     due(6, "by(0)", x.by(0), 5);
+    // all four step in every hour, and no other depth is there
+    x = told("street 3 house 0 depth 4;goer loud 0;goer loud 0;goer loud 0;goer loud 0;sleeps:depth;");
+    due(15, "soonest(15)", x.soonest(15), 3);
+    for (int i = 0; i < 4; i++) due(16, "way(15, " + i + ")", x.way(15, i), i < 3 ? 15 : -1);
+    tray(x, 1, 0, 0, 0, 0);
+    due(37, "lists(1, 15)", x.lists(1, 15), 3);
+    due(12, "judge of it: why", x.judge(1, 1), 0);
+    due(12, "judge of it: who is past", x.judge(1, 3), 15);
     // goers and depth are as they were in the game, but those of the set are on now
     x = told("street 2 house 0 depth 4;goer loud 0;goer loud 0;noise:goer*9;");
     due(31, "daring(1)", x.daring(1), 1);
@@ -1110,8 +1118,25 @@ public final class Promises {
     due(31, "daring(1) a cell on", x.daring(1), 1);
     due(32, "dares(1) a cell on", x.dares(1), 0);
     due(31, "daring(2)", x.daring(2), -1);
+    due(31, "daring(1) once more", x.daring(1), 1);
+    due(11, "undo(1)", x.undo(1), 0);
+    due(31, "daring(1), to be known", x.daring(1), 1);
+    due(7, "hour(1)", x.hour(1), 5);
+    due(7, "hour(0)", x.hour(0), 6);
+    due(31, "daring(1), deeper by one", x.daring(1), 1);
+    due(11, "undo(1)", x.undo(1), 1);
     due(7, "hour(1)", x.hour(1), 6);
     due(31, "daring(1), goer 0 past", x.daring(1), 1);
     due(32, "dares(1), goer 0 past", x.dares(1), -1);
+    // both went a cell on: by turns at depth 4, where the sixth turn wakes it; at once at depth 5, where all are past ahead of it
+    x = told("street 3 house 0 depth 6;goer loud 0;goer loud 0;sleeps:depth-1;");
+    due(31, "daring(1), six turns", x.daring(1), 1);
+    due(7, "hour(3)", x.hour(3), 5);
+    due(31, "daring(1), four turns", x.daring(1), 0);
+    // the others are nobody: an hour of theirs comes ahead of the cell, or doesn't
+    x = told("street 4 house 0 depth 5;goer loud 0;sleeps:depth-1;");
+    due(31, "daring(1), five turns", x.daring(1), -1);
+    due(7, "hour(1)", x.hour(1), 4);
+    due(31, "daring(1), four turns", x.daring(1), 1);
   }
 }
